@@ -445,8 +445,10 @@ public final class SlopeMeter {
                 case 'l':
                     state.meter.signal.level = number;
                     break;
-                default:
+                case 'g':
                     state.meter.settings.range = number;
+                    break;
+                default:
                     break;
             }
         }
@@ -583,8 +585,6 @@ public final class SlopeMeter {
 
         void begin() {
             isMade = true;
-            isOver = false;
-            counts = 0;
             downTicks = 0;
             fineTicks = 0;
             subtractedTicks = 0;
@@ -694,7 +694,7 @@ public final class SlopeMeter {
             int gain = gainOf(settings.range);
             readingRange = settings.range;
             readingBegin = time;
-            convert(true, gain);
+            convert(gain);
             readingNet = (long) conversion.counts - zeroCounts;
             long divisor = (long) settings.window * gain;
             long value = divisor <= 0 ? 0 : readingNet * SIXTEENTH / divisor;
@@ -704,20 +704,20 @@ public final class SlopeMeter {
             return value;
         }
 
+        /** With the gain 0 the input is 0 in all ticks, whatever the signal is. */
         void convertZero() {
-            convert(false, 1);
+            convert(0);
             zeroCounts = conversion.counts;
         }
 
-        private void convert(boolean hasInput, int gain) {
+        private void convert(int gain) {
             conversion.begin();
             int direction = 0;
             for (int tick = 0; tick < settings.window; tick++) {
                 if (settings.beginsSlot(tick)) {
                     direction = conversion.sign() > 0 ? -1 : 1;
                 }
-                long input = hasInput ? signal.inputAt(time, gain) : 0;
-                conversion.runUp(input + signal.offsetAt(time), direction);
+                conversion.runUp(signal.inputAt(time, gain) + signal.offsetAt(time), direction);
                 time++;
             }
             conversion.runDown(settings.window);

@@ -12,6 +12,8 @@ public final class ReadingTest {
         lastSlotIsShorter();
         overTheRange();
         peakOfARunDown();
+        slotsOfOneTick();
+        integralOfOne();
         zeroConversion();
         zeroOfAReading();
         rangeSwitching();
@@ -139,6 +141,27 @@ public final class ReadingTest {
         latestIs(x, "-1", 0, 1, 16, 0, 0, 1048572, -4);
     }
 
+    /** The first slot adds, as 0 is not greater than 0; then the directions follow the integral. */
+    private static void slotsOfOneTick() {
+        SlopeMeter x = meter(5, 400000);
+        x.set(SlopeMeter.MODE, SlopeMeter.MULTI);
+        x.set(SlopeMeter.SLOT, 1);
+        // 1448576, 800000, 151424, -497152, 951424: one tick down, and 97152 is 2 sixteenths
+        CHECKS.due("read() with slots of one tick", x.read(), 30 * 65536 / 5);
+        latestIs(x, "slots of one tick", 30, 1, 2, 3, 2, 1448576, 33920);
+    }
+
+    /** The offset is 0 in three ticks and 1 or -1 in the fourth. */
+    private static void integralOfOne() {
+        for (int sign = -1; sign <= 1; sign += 2) {
+            SlopeMeter x = meter(4, 50);
+            x.pass(997);
+            x.setOffset(0, sign);
+            CHECKS.due("zero() with the integral " + sign, x.zero(), 10000000);
+            latestIs(x, "integral " + sign, 0, 1, 16, 0, 0, 1048575, sign);
+        }
+    }
+
     /** Promise 9. */
     private static void zeroConversion() {
         SlopeMeter x = meter(4, 2000000);
@@ -188,8 +211,10 @@ public final class ReadingTest {
         CHECKS.due("zero", x.log(2, 6), 0);
         CHECKS.due("begin", x.log(2, 4), 49 + 4);
         x.set(SlopeMeter.ZERO, 1);
+        x.setOffset(100000, 0);
         x.read();
         CHECKS.due("count(4) with ZERO 1", x.count(4), 0);
+        CHECKS.due("zero with ZERO 1", x.log(3, 6), 6);
         x.set(SlopeMeter.ZERO, 0);
         int before = x.count(0);
         x.read();
@@ -361,6 +386,7 @@ public final class ReadingTest {
         }
         CHECKS.due("statistic(-1, 0)", x.statistic(-1, 0), Checks.gone(BAD));
         CHECKS.due("statistic(min, 4)", x.statistic(Integer.MIN_VALUE, 4), Checks.gone(BAD));
+        statisticOfAFullLog();
         x.setLevel(0);
         Checks.say(x, "r37");
         x.run();
@@ -368,6 +394,28 @@ public final class ReadingTest {
         CHECKS.due("greatest in the full log", x.statistic(0, 2), 4 * 16384);
         CHECKS.due("least in the full log", x.statistic(1, 1), -2 * 16384);
         CHECKS.due("number from 41", x.statistic(41, 0), 1);
+    }
+
+    /** The oldest reading of a full log counts once, and no older one counts. */
+    private static void statisticOfAFullLog() {
+        for (int sign = -1; sign <= 1; sign += 2) {
+            SlopeMeter x = meter(4, -sign * 8 * 16384);
+            x.read();
+            x.read();
+            x.setLevel(sign * 4 * 16384);
+            x.read();
+            x.setLevel(0);
+            Checks.say(x, "r39");
+            x.run();
+            CHECKS.due("number", x.statistic(0, 0), 40);
+            CHECKS.due("mean", x.statistic(0, 3), sign * 4 * 16384 / 40);
+            CHECKS.due("least", x.statistic(0, 1), Math.min(0, sign * 4 * 16384));
+            CHECKS.due("greatest", x.statistic(0, 2), Math.max(0, sign * 4 * 16384));
+            CHECKS.due("number behind the oldest", x.statistic(3, 0), 39);
+            CHECKS.due("mean behind the oldest", x.statistic(3, 3), 0);
+            CHECKS.due("least behind the oldest", x.statistic(3, 1), 0);
+            CHECKS.due("greatest behind the oldest", x.statistic(3, 2), 0);
+        }
     }
 
     /** The mean is truncated toward 0, and overs count from a reading on. */
@@ -381,6 +429,7 @@ public final class ReadingTest {
         x.read();
         x.setLevel(2500000);
         x.read();
+        CHECKS.due("log(3, 3)", x.log(3, 3), 1);
         CHECKS.due("statistic(0, 4)", x.statistic(0, 4), 3);
         CHECKS.due("statistic(1, 4)", x.statistic(1, 4), 2);
         CHECKS.due("statistic(2, 4)", x.statistic(2, 4), 1);

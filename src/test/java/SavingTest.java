@@ -48,7 +48,9 @@ public final class SavingTest {
         x.set(SlopeMeter.ZERO, 1);
         for (int reading = 0; reading < 3; reading++) {
             CHECKS.due("count(4) with ZERO 1", x.count(4), 0);
+            int time = x.count(0);
             x.read();
+            CHECKS.due("ticks with ZERO 1", x.count(0) - time, 200);
         }
     }
 

@@ -8,6 +8,7 @@ public final class TextTest {
         faults();
         noGreatestLength();
         everySignOfAFirstStep();
+        everySignBehindAKind();
         runEachStep();
         runInOrder();
         runThatFails();
@@ -98,6 +99,19 @@ public final class TextTest {
         }
     }
 
+    private static void everySignBehindAKind() {
+        String[] begins = {"r", "z", "w", "l", "g", "l-", "r9", "l0", "w9999", "l3000000", "g3", "z,"};
+        String[] correct = {"123456789", "", "123456789", "0123456789", "0123", "0123456789", "0123456789", "", "", "", "", "rz"};
+        String[] goingOn = {",", ",", "", "-", "", "", ",", ",", ",", ",", ",", "wlg"};
+        for (int i = 0; i < begins.length; i++) {
+            for (int sign = 33; sign <= 126; sign++) {
+                int at = begins[i].length();
+                int want = correct[i].indexOf(sign) >= 0 ? NONE : goingOn[i].indexOf(sign) >= 0 ? at + 1 : at;
+                CHECKS.due("fault() of " + begins[i] + (char) sign, meter(begins[i] + (char) sign).fault(), want);
+            }
+        }
+    }
+
     /** Promise 23, a step each. */
     private static void runEachStep() {
         SlopeMeter x = meter("r");
@@ -127,6 +141,7 @@ public final class TextTest {
         x.setOffset(100000, 0);
         Checks.say(x, "z");
         CHECKS.due("run() z", x.run(), 0);
+        CHECKS.due("get(5) as before", x.get(SlopeMeter.RANGE), 3);
         CHECKS.due("count(3)", x.count(3), 10000006);
         CHECKS.due("latest(0)", x.latest(0), 6);
         CHECKS.due("count(1)", x.count(1), 13);

@@ -11,6 +11,7 @@ public final class WhatIfTest {
         rippleOfDrift();
         bestWindow();
         bestWindowWithHum();
+        bestWindowIsOfRipple8();
         order();
         levelFor();
         levelForWrongInputs();
@@ -125,6 +126,32 @@ public final class WhatIfTest {
         CHECKS.due("bestWindow(300, 50, 3)", x.bestWindow(300, 50, 3), 400);
     }
 
+    /** The windows compared by ripple(8) itself, and the last and the second of them as the best. */
+    private static void bestWindowIsOfRipple8() {
+        SlopeMeter x = meter(50, 1000);
+        x.setHum(500000, 60);
+        CHECKS.due("the last is the best", x.bestWindow(50, 5, 3), 60);
+        CHECKS.due("behind the last it would be", x.bestWindow(52, 2, 4), 58);
+        CHECKS.due("the second is the best", x.bestWindow(55, 5, 2), 60);
+        for (int i = 0; i < 60; i++) {
+            int first = 4 + i;
+            int step = 1 + i % 5;
+            x.setHum(20000 + 9999 * i, 20 + 4 * i);
+            x.setLevel(700 * i);
+            int best = 0;
+            long least = Long.MAX_VALUE;
+            for (int window = first; window < first + 5 * step; window += step) {
+                x.set(SlopeMeter.WINDOW, window);
+                long ripple = x.ripple(8);
+                if (ripple < least) {
+                    least = ripple;
+                    best = window;
+                }
+            }
+            CHECKS.due("bestWindow(" + first + ", " + step + ", 5)", x.bestWindow(first, step, 5), best);
+        }
+    }
+
     /** Promise 17: counts of 16384 for each tick of 16384; half of the steps are equal. */
     private static void order() {
         SlopeMeter x = meter(4, 0);
@@ -134,6 +161,8 @@ public final class WhatIfTest {
         // the steps around 0 are all 0: -8192, 0, 8192
         CHECKS.due("order(-16384, 8192, 5, 1)", x.order(-16384, 8192, 5, 1), 2);
         CHECKS.due("order(2500000, 100000, 6, 1)", x.order(2500000, 100000, 6, 1), 5);
+        CHECKS.due("order(0, 1, 40, 1)", x.order(0, 1, 40, 1), 39);
+        CHECKS.due("order(16383, 1, 2, 1)", x.order(16383, 1, 2, 1), 0);
         CHECKS.due("order(-3000000, 16384, 2, 1)", x.order(-3000000, 16384, 2, 1), 1);
         CHECKS.due("order(2900000, 100000, 2, 1)", x.order(2900000, 100000, 2, 1), 1);
         CHECKS.due("order(-900000, 100000, 40, 1)", x.order(-900000, 100000, 40, 1), 5);
