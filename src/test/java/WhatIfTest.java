@@ -133,23 +133,30 @@ public final class WhatIfTest {
         CHECKS.due("the last is the best", x.bestWindow(50, 5, 3), 60);
         CHECKS.due("behind the last it would be", x.bestWindow(52, 2, 4), 58);
         CHECKS.due("the second is the best", x.bestWindow(55, 5, 2), 60);
-        for (int i = 0; i < 60; i++) {
-            int first = 4 + i;
-            int step = 1 + i % 5;
-            x.setHum(20000 + 9999 * i, 20 + 4 * i);
-            x.setLevel(700 * i);
-            int best = 0;
-            long least = Long.MAX_VALUE;
-            for (int window = first; window < first + 5 * step; window += step) {
-                x.set(SlopeMeter.WINDOW, window);
-                long ripple = x.ripple(8);
-                if (ripple < least) {
-                    least = ripple;
-                    best = window;
-                }
-            }
-            CHECKS.due("bestWindow(" + first + ", " + step + ", 5)", x.bestWindow(first, step, 5), best);
+        // first, step, level, amplitude and period with which 7 or 9 copies would find another window
+        int[][] rows = {{4, 1, -121292, 588911, 104, 14}, {149, 2, 158289, 819276, 52, 155},
+            {135, 1, -641, 410745, 104, 144}, {118, 1, 18275, 89395, 88, 122}, {107, 2, -128057, 728372, 56, 111}};
+        for (int[] r : rows) {
+            x.setLevel(r[2]);
+            x.setHum(r[3], r[4]);
+            String call = "bestWindow(" + r[0] + ", " + r[1] + ", 12)";
+            CHECKS.due(call, x.bestWindow(r[0], r[1], 12), r[5]);
+            CHECKS.due(call + " by ripple(8)", leastRipple(x, r[0], r[1]), r[5]);
         }
+    }
+
+    private static int leastRipple(SlopeMeter x, int first, int step) {
+        int best = 0;
+        long least = Long.MAX_VALUE;
+        for (int window = first; window < first + 12 * step; window += step) {
+            x.set(SlopeMeter.WINDOW, window);
+            long ripple = x.ripple(8);
+            if (ripple < least) {
+                least = ripple;
+                best = window;
+            }
+        }
+        return best;
     }
 
     /** Promise 17: counts of 16384 for each tick of 16384; half of the steps are equal. */
