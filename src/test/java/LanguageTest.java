@@ -32,6 +32,7 @@ public final class LanguageTest {
         face();
         classes();
         text();
+        lengths();
         CHECKS.finish();
     }
 
@@ -122,5 +123,25 @@ public final class LanguageTest {
         while (library.find()) {
             CHECKS.due("the library's " + library.group() + " is allowed", allowed.contains(library.group()) ? 1 : 0, 1);
         }
+    }
+
+    /** Rule 11: a method begins at the indentation of its class's members, and ends at the same one. */
+    private static void lengths() throws IOException {
+        List<String> lines = Files.readAllLines(Path.of("src/main/java/SlopeMeter.java"));
+        Pattern begin = Pattern.compile("( {4}| {8})(public |private |static |final )*[\\w\\[\\]]+ \\w+\\(.*\\{");
+        int methods = 0;
+        for (int first = 0; first < lines.size(); first++) {
+            Matcher matcher = begin.matcher(lines.get(first));
+            if (!matcher.matches()) {
+                continue;
+            }
+            methods++;
+            int last = first;
+            while (!lines.get(last).equals(matcher.group(1) + "}")) {
+                last++;
+            }
+            CHECKS.due("line " + (first + 1) + " begins a method of at most sixty lines", last - first < 60 ? 1 : 0, 1);
+        }
+        CHECKS.due("methods are found", methods > METHODS.length ? 1 : 0, 1);
     }
 }
